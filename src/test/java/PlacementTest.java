@@ -17,6 +17,7 @@ public final class PlacementTest {
     test.placeEmptyLockedAndFull();
     test.placeByOwnCostAlone();
     test.placeWithLockedOnes();
+    test.theLastCandidateIsTheBest();
     test.improveCountsTrials();
     test.improveSkipsWhatItHas();
     test.improveLooksAtAll();
@@ -352,6 +353,48 @@ public final class PlacementTest {
     map.choose(1, -1);
     check.due("12 none of two", map.place(), 0);
     check.due("19 both without", map.cost(), 10 * 120 + 6 * 120 + 32L);
+  }
+
+  /** Maps where the last candidate of a point, a line or an area is the one that is seen from the zoom 0 on. */
+  private static Cartouche lastIsBest(int kind) {
+    Cartouche map = new Cartouche();
+    if (kind == 0) {
+      // 8 and 120 places have no room on the screen of 125.
+      map.addPoint(999, 0, 5, 8, 20, 1);
+    } else if (kind == 1) {
+      map.addLine(500, 500, 5, 20, 1);
+      for (int vertex = 1; vertex < 5; vertex++) {
+        map.addVertex(0, 500, 500);
+      }
+      map.addVertex(0, 600, 500);
+    } else {
+      // 15 by 25 places at the zoom 0: the short form has 24 by 10 or 12 by 20.
+      map.addArea(400, 400, 520, 600, 5, 20, 4);
+    }
+    return map;
+  }
+
+  private void theLastCandidateIsTheBest() {
+    int[] lasts = {15, 9, 3};
+    long[] tastes = {15, 12, 9};
+    for (int kind = 0; kind < 3; kind++) {
+      Cartouche map = lastIsBest(kind);
+      check.due("20 the last one", map.leastCost(), tastes[kind]);
+      check.due("12 the last one", map.place(), 1);
+      check.due("16 placed, the kind " + kind, map.candidateOf(0), lasts[kind]);
+      check.due("19 placed, the kind " + kind, map.cost(), tastes[kind]);
+      check.due("17 placed, the kind " + kind, map.nameFrom(0), 0);
+      check.due("13 no other one is better", map.improve(500), lasts[kind] + 1);
+      check.due("20 still", map.leastCost(), tastes[kind]);
+      // From none, the last candidate is the last trial but none.
+      Cartouche improved = lastIsBest(kind);
+      improved.improve(lasts[kind]);
+      check.due("16 before the last trial", improved.candidateOf(0) < lasts[kind], true);
+      Cartouche whole = lastIsBest(kind);
+      check.due("13 to the last candidate", whole.improve(lasts[kind] + 1), lasts[kind] + 1);
+      check.due("16 improved, the kind " + kind, whole.candidateOf(0), lasts[kind]);
+      check.due("13 a second round without it", lastIsBest(kind).improve(500), 2 * (lasts[kind] + 1) + 1);
+    }
   }
 
   // ---- improving

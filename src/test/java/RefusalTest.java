@@ -13,6 +13,8 @@ public final class RefusalTest {
   private static final int MOST = Integer.MAX_VALUE;
   /** No features of the crowded map: 5 is gone. */
   private static final int[] NO_FEATURES = {-1, 5, 7, 23, 24, LEAST, MOST};
+  /** No features of the full map. */
+  private static final int[] BEYOND_ALL = {24, 25, -1, LEAST, MOST};
   private static final int[] NO_ZOOMS = {-1, 6, LEAST, MOST};
   private static final int[] NO_PLACES = {-1, 1000, LEAST, MOST};
   private static final int[] NO_RANKS = {-1, 10, LEAST, MOST};
@@ -33,8 +35,8 @@ public final class RefusalTest {
     RefusalTest test = new RefusalTest();
     test.from(Story::crowded);
     test.acceptedCallsShow();
-    test.noSuchFeature();
-    test.noSuchFeatureAndMore();
+    test.noSuchFeature(NO_FEATURES);
+    test.noSuchFeatureAndMore(NO_FEATURES);
     test.wrongNumbersOfFeatures();
     test.vertices();
     test.wishesTurnsTrialsChoices();
@@ -44,9 +46,13 @@ public final class RefusalTest {
     test.squares();
     test.from(Story::full);
     test.wrongNumbersOfFeatures();
+    test.noSuchFeature(BEYOND_ALL);
+    test.noSuchFeatureAndMore(BEYOND_ALL);
     test.fullMap();
     test.from(Story::empty);
     test.wrongNumbersOfFeatures();
+    test.noSuchFeature(new int[] {0, 1, 23, -1, LEAST, MOST});
+    test.noSuchFeatureAndMore(new int[] {0, LEAST, MOST});
     test.emptyMap();
     test.check.end("RefusalTest");
   }
@@ -91,8 +97,8 @@ public final class RefusalTest {
     accepted("nameIn", map -> map.nameIn(0, 1, 1, 0));
   }
 
-  private void noSuchFeature() {
-    for (int f : NO_FEATURES) {
+  private void noSuchFeature(int[] noFeatures) {
+    for (int f : noFeatures) {
       refused("4 addVertex " + f, INDEX, map -> map.addVertex(f, 5, 5));
       refused("6 remove " + f, INDEX, map -> map.remove(f));
       refused("7 setWish " + f, INDEX, map -> map.setWish(f, 5));
@@ -113,8 +119,8 @@ public final class RefusalTest {
   }
 
   /** What is no feature comes first, though another number is wrong as well. */
-  private void noSuchFeatureAndMore() {
-    for (int f : NO_FEATURES) {
+  private void noSuchFeatureAndMore(int[] noFeatures) {
+    for (int f : noFeatures) {
       refused("4 addVertex " + f + ", x", INDEX, map -> map.addVertex(f, 1000, 5));
       refused("4 addVertex " + f + ", y", INDEX, map -> map.addVertex(f, 5, -1));
       refused("4 addVertex " + f + ", both", INDEX, map -> map.addVertex(f, LEAST, MOST));
@@ -301,8 +307,6 @@ public final class RefusalTest {
     refused("3 the 25th, greatest numbers", STATE, map -> map.addLine(999, 999, 9, 20, 20));
     refused("5 the 25th, greatest numbers", STATE, map -> map.addArea(999, 999, 999, 999, 9, 20, 20));
     refused("20 leastCost", UNSUPPORTED, map -> map.leastCost());
-    refused("6 remove the 25th", INDEX, map -> map.remove(24));
-    refused("14 choose of the 25th", INDEX, map -> map.choose(24, -1));
     refused("29 indexed", NO_ELEMENT, map -> map.indexed(0, 24));
   }
 
@@ -317,22 +321,6 @@ public final class RefusalTest {
     }
     for (int n : NO_ZOOMS) {
       refused("30 namedShare, zoom " + n, ARGUMENT, map -> map.namedShare(n));
-    }
-    for (int n : new int[] {0, 1, 23, -1, LEAST, MOST}) {
-      refused("4 addVertex " + n, INDEX, map -> map.addVertex(n, 5, 5));
-      refused("6 remove " + n, INDEX, map -> map.remove(n));
-      refused("7 setWish " + n, INDEX, map -> map.setWish(n, 5));
-      refused("8 shift " + n, INDEX, map -> map.shift(n, 0, 0));
-      refused("10 lock " + n, INDEX, map -> map.lock(n, true));
-      refused("14 choose " + n, INDEX, map -> map.choose(n, -1));
-      refused("15 candidates " + n, INDEX, map -> map.candidates(n));
-      refused("16 candidateOf " + n, INDEX, map -> map.candidateOf(n));
-      refused("17 nameFrom " + n, INDEX, map -> map.nameFrom(n));
-      refused("18 seenFrom " + n, INDEX, map -> map.seenFrom(n));
-      refused("21 left " + n, INDEX, map -> map.left(n, 5));
-      refused("22 top " + n, INDEX, map -> map.top(n, 5));
-      refused("23 widthOf " + n, INDEX, map -> map.widthOf(n));
-      refused("28 square " + n, INDEX, map -> map.square(n));
     }
     for (int square = 0; square < 64; square++) {
       int n = square;
