@@ -754,10 +754,12 @@ public final class PromiseTest {
     check.due("20 nothing is changed", map.cost(), placed);
     long tried = Long.MAX_VALUE;
     for (int point = -1; point < 16; point++) {
+      // All of them would be too many calls for one object.
+      Cartouche other = greedy();
+      other.choose(0, point);
       for (int line = -1; line < 10; line++) {
-        map.choose(0, point);
-        map.choose(1, line);
-        tried = Math.min(tried, map.cost());
+        other.choose(1, line);
+        tried = Math.min(tried, other.cost());
       }
     }
     check.due("20 all placements tried by hand", least, tried);

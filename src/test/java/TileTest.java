@@ -81,7 +81,7 @@ public final class TileTest {
       map.addArea(x, y, x + 6, y + 10, i % 10, 1, 1);
       map.choose(i, 0);
     }
-    for (int y = 400; y < 440; y += 3) {
+    for (int y : new int[] {400, 409, 410, 419, 420, 429, 430, 439}) {
       for (int x = 400; x < 436; x++) {
         duePlace("side by side", map, x, y, 3, (x - 400) / 6 + 6 * ((y - 400) / 10));
       }
