@@ -174,9 +174,9 @@ public final class Cartouche {
       Feature feature = order.get(at);
       int before = feature.candidate;
       if (!feature.isLocked) {
-        feature.candidate = bestChoice(at);
+        feature.candidate = bestChoice(feature);
       }
-      feature.nameFrom = nameFromAt(at);
+      feature.nameFrom = nameFromOf(feature);
       if (feature.candidate != before) {
         changed++;
       }
@@ -195,7 +195,7 @@ public final class Cartouche {
     for (int round = 0; round <= MOST_TRIALS && isChanged && open > 0; round++) {
       long before = costFrom(0);
       for (int at = 0; at < order.size(); at++) {
-        open -= improveAt(at, open);
+        open -= improveAt(order.get(at), at, open);
       }
       // A change always lowers the cost.
       isChanged = costFrom(0) < before;
@@ -367,7 +367,7 @@ public final class Cartouche {
     for (int zoom = 0; zoom < ZOOMS; zoom++) {
       for (int at = 0; at < order.size(); at++) {
         Feature feature = order.get(at);
-        if (feature.isNameSeen(zoom) && (feature.seenFrom > zoom || !isNameApart(at, zoom))) {
+        if (feature.isNameSeen(zoom) && (feature.seenFrom > zoom || !isNameApart(feature, zoom))) {
           return false;
         }
       }
@@ -440,7 +440,8 @@ public final class Cartouche {
       order.get(at).project(turn);
     }
     for (int at = 0; at < order.size(); at++) {
-      order.get(at).seenFrom = symbolFromAt(at);
+      Feature feature = order.get(at);
+      feature.seenFrom = symbolFromOf(feature);
     }
     for (int at = 0; at < order.size(); at++) {
       openChoices(order.get(at));
@@ -449,18 +450,22 @@ public final class Cartouche {
     dropTiles();
   }
 
-  private int symbolFromAt(int at) {
+  private int symbolFromOf(Feature feature) {
     int from = NEVER;
-    for (int zoom = LAST_ZOOM; zoom >= 0 && !isSymbolHidden(at, zoom); zoom--) {
+    for (int zoom = LAST_ZOOM; zoom >= 0 && !isSymbolHidden(feature, zoom); zoom--) {
       from = zoom;
     }
     return from;
   }
 
-  private boolean isSymbolHidden(int at, int zoom) {
-    Box box = order.get(at).symbolBox(zoom);
-    for (int stronger = 0; stronger < at; stronger++) {
-      Feature other = order.get(stronger);
+  private boolean isSymbolHidden(Feature feature, int zoom) {
+    Box box = feature.symbolBox(zoom);
+    for (int at = 0; at < order.size(); at++) {
+      Feature other = order.get(at);
+      if (other.number == feature.number) {
+        // All that follow are weaker.
+        return false;
+      }
       if (other.seenFrom <= zoom && Box.overlap(box, other.symbolBox(zoom))) {
         return true;
       }
@@ -494,25 +499,29 @@ public final class Cartouche {
 
   /** Works out from which zooms on the names of the feature at a position and of all weaker ones are seen. */
   private void settleFrom(int first) {
-    for (int at = first; at < order.size(); at++) {
-      order.get(at).nameFrom = nameFromAt(at);
+    for (int at = Math.max(0, first); at < order.size(); at++) {
+      Feature feature = order.get(at);
+      feature.nameFrom = nameFromOf(feature);
     }
   }
 
-  private int nameFromAt(int at) {
-    int open = order.get(at).openForName();
+  private int nameFromOf(Feature feature) {
+    int open = feature.openForName();
     int from = NEVER;
-    for (int zoom = LAST_ZOOM; zoom >= open && !isNameTaken(at, zoom); zoom--) {
+    for (int zoom = LAST_ZOOM; zoom >= open && !isNameTaken(feature, zoom); zoom--) {
       from = zoom;
     }
     return from;
   }
 
-  private boolean isNameTaken(int at, int zoom) {
-    Feature feature = order.get(at);
+  private boolean isNameTaken(Feature feature, int zoom) {
     Box box = feature.boxOf(feature.candidate, zoom);
-    for (int stronger = 0; stronger < at; stronger++) {
-      Feature other = order.get(stronger);
+    for (int at = 0; at < order.size(); at++) {
+      Feature other = order.get(at);
+      if (other.number == feature.number) {
+        // All that follow are weaker.
+        return false;
+      }
       if (other.isNameSeen(zoom) && Box.overlap(box, other.boxOf(other.candidate, zoom))) {
         return true;
       }
@@ -521,14 +530,14 @@ public final class Cartouche {
   }
 
   private void saveFroms(int first) {
-    for (int at = first; at < order.size(); at++) {
+    for (int at = Math.max(0, first); at < order.size(); at++) {
       Feature feature = order.get(at);
       feature.savedFrom = feature.nameFrom;
     }
   }
 
   private void restoreFroms(int first) {
-    for (int at = first; at < order.size(); at++) {
+    for (int at = Math.max(0, first); at < order.size(); at++) {
       Feature feature = order.get(at);
       feature.nameFrom = feature.savedFrom;
     }
@@ -550,18 +559,17 @@ public final class Cartouche {
   /** The cost of the feature at a position and of all weaker ones. */
   private long costFrom(int first) {
     long sum = 0;
-    for (int at = first; at < order.size(); at++) {
+    for (int at = Math.max(0, first); at < order.size(); at++) {
       sum += order.get(at).price();
     }
     return sum;
   }
 
-  private int bestChoice(int at) {
-    Feature feature = order.get(at);
+  private int bestChoice(Feature feature) {
     int best = NONE;
-    long least = priceWith(at, NONE);
+    long least = priceWith(feature, NONE);
     for (int choice = feature.choices() - 1; choice >= 0; choice--) {
-      long price = priceWith(at, choice);
+      long price = priceWith(feature, choice);
       // Counted down, so that of several the lowest one wins, and any wins over none.
       if (price <= least) {
         least = price;
@@ -571,16 +579,14 @@ public final class Cartouche {
     return best;
   }
 
-  private long priceWith(int at, int choice) {
-    Feature feature = order.get(at);
+  private long priceWith(Feature feature, int choice) {
     feature.candidate = choice;
-    feature.nameFrom = nameFromAt(at);
+    feature.nameFrom = nameFromOf(feature);
     return feature.price();
   }
 
   /** Tries the candidates of the feature at a position, and none, and returns how many trials that took. */
-  private int improveAt(int at, int most) {
-    Feature feature = order.get(at);
+  private int improveAt(Feature feature, int at, int most) {
     if (feature.isLocked) {
       return 0;
     }
@@ -588,7 +594,7 @@ public final class Cartouche {
     for (int step = 0; step <= feature.choices() && made < most; step++) {
       int choice = step < feature.choices() ? step : NONE;
       if (choice != feature.candidate) {
-        tryChoice(at, choice);
+        tryChoice(feature, at, choice);
         made++;
       }
     }
@@ -596,8 +602,7 @@ public final class Cartouche {
   }
 
   /** Stronger features don't hang on this one: so costs are compared from its position on. */
-  private void tryChoice(int at, int choice) {
-    Feature feature = order.get(at);
+  private void tryChoice(Feature feature, int at, int choice) {
     int before = feature.candidate;
     long costBefore = costFrom(at);
     saveFroms(at);
@@ -626,7 +631,7 @@ public final class Cartouche {
    * cost what is spent, or the best one known if that is less. The depth is the position.
    */
   private long leastAt(int at, long spent, long best) {
-    if (at >= order.size() || spent >= best) {
+    if (!isWithin(at, 0, order.size() - 1) || spent >= best) {
       return Math.min(spent, best);
     }
     Feature feature = order.get(at);
@@ -636,7 +641,7 @@ public final class Cartouche {
     int last = feature.isLocked ? candidate : feature.choices() - 1;
     long least = best;
     for (int choice = first; choice <= last; choice++) {
-      long price = priceWith(at, choice);
+      long price = priceWith(feature, choice);
       least = leastAt(at + 1, spent + price, least);
     }
     feature.candidate = candidate;
@@ -710,15 +715,17 @@ public final class Cartouche {
 
   // ---- the invariants
 
-  private boolean isNameApart(int at, int zoom) {
-    Feature feature = order.get(at);
+  private boolean isNameApart(Feature feature, int zoom) {
     Box box = feature.boxOf(feature.candidate, zoom);
-    for (int i = 0; i < order.size(); i++) {
-      Feature other = order.get(i);
-      if (i != at && other.isNameSeen(zoom) && Box.overlap(box, other.boxOf(other.candidate, zoom))) {
+    for (int at = 0; at < order.size(); at++) {
+      Feature other = order.get(at);
+      if (other.number == feature.number) {
+        continue;
+      }
+      if (other.isNameSeen(zoom) && Box.overlap(box, other.boxOf(other.candidate, zoom))) {
         return false;
       }
-      if (i != at && other.seenFrom <= zoom && Box.overlap(box, other.symbolBox(zoom))) {
+      if (other.seenFrom <= zoom && Box.overlap(box, other.symbolBox(zoom))) {
         return false;
       }
     }
